@@ -554,6 +554,10 @@ public final class PromiseTest {
         x.reading(2, 0, 1);
         due("never wet at first", x.limits(2), 0);
         due("post 3", x.limits(3), WeatherPass.UNKNOWN);
+        x = withLand("v6,99,99,99,99,99,99-p9-p9-p9-p9-f4;99999999");
+        due("behind the eighth day", x.reading(4, 8, 1), 0);
+        due("of the last post", x.limits(4), 1 << 4);
+        due("of the first post", x.limits(0), 1 << 9);
         for (int wild : WILD) {
             due("post", x.limits(wild), WeatherPass.UNKNOWN);
         }
@@ -879,6 +883,12 @@ public final class PromiseTest {
         faultOf(x, "land refused", x.land(0, 3, 0, 0), 0);
         faultOf(x, "plan INDEX", x.plan(0, 0, 0, 4, 0), INDEX);
         faultOf(x, "plan without land", x.plan(0, 0, 0, 3, 0), 0);
+        faultOf(x, "plan INDEX", x.plan(0, 0, 0, 4, 0), INDEX);
+        faultOf(x, "plan of no sheet", x.plan(4, 0, 0, 4, 0), 0);
+        faultOf(x, "plan SIZE", x.plan(0, 0, 0, -1, 0), SIZE);
+        faultOf(x, "plan of no lane", x.plan(0, 3, 0, 4, 0), 0);
+        faultOf(x, "land INDEX", x.land(0, 0, 0, 4), INDEX);
+        faultOf(x, "land of no sheet", x.land(4, 0, 0, 4), 0);
         faultOf(x, "copy NULL", x.copy(0, 0, 1, 0, 0), NULL);
         faultOf(x, "copy refused", x.copy(0, 0, 4, 0, 0), 0);
         faultOf(x, "copy INDEX", x.copy(0, 0, 0, 0, 4), INDEX);

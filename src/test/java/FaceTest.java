@@ -1,0 +1,185 @@
+import java.lang.reflect.Field;
+import java.lang.reflect.Member;
+import java.lang.reflect.Method;
+import java.lang.reflect.Modifier;
+import java.nio.file.Files;
+import java.nio.file.Path;
+import java.util.Arrays;
+import java.util.List;
+import java.util.Set;
+import java.util.TreeSet;
+import java.util.regex.Matcher;
+import java.util.regex.Pattern;
+
+/** The document's face, and what of ../shared/LANGUAGE.md can be seen from outside or from the words of the source. */
+public final class FaceTest {
+    private static final String FACE = """
+        int land(int sheet, int lane, int i, int n);
+        int ofField(int f, int what);
+        int ofPost(int p, int what);
+        int lets(int p, int much);
+        int limit(int p, int v);
+        int rain(int day, int v);
+        int wet(int f, int t);
+        int fell(int f, int t);
+        int flood(int what);
+        int enough();
+        int plan(int sheet, int lane, int i, int n, int what);
+        int papers();
+        int most();
+        int shut(int f);
+        int reading(int f, int t, int v);
+        int back(int k);
+        int limits(int p);
+        int kinds(int p);
+        int rains(int day);
+        long odds(int f, int which);
+        int sheet(int k, int lane, int n);
+        int lose(int k);
+        int put(int k, int i, int v);
+        long cell(int k, int i, int lane);
+        int copy(int k, int i, int other, int j, int n);
+        int tell(int p);
+        int stamp(int p);
+        int as(int p, int kind);
+        int trace();
+        int fault();
+        int many(int what);
+        """;
+    private static final String[] FORBIDDEN = {"throw", "throws", "try", "catch", "finally", "synchronized", "assert",
+        "var", "protected", "native", "volatile", "transient", "->", "::", "\"", "Exact", "equals", "hashCode",
+        "toString", "getClass", "System.out", "package"};
+
+    private static int wrong = 0;
+
+    private static void check(boolean holds, String what) {
+        if (!holds) {
+            wrong++;
+            System.out.println(what);
+        }
+    }
+
+    public static void main(String[] args) throws Exception {
+        methods();
+        constants();
+        String source = Files.readString(Path.of(System.getProperty("project"), "src/main/java/WeatherPass.java"));
+        String code = source.replaceAll("(?s)/\\*.*?\\*/", "").replaceAll("//[^\n]*", "");
+        words(source, code);
+        classes();
+        lengths(code);
+        objects(code);
+        System.out.println(wrong == 0 ? "the face is the document's" : wrong + " things are not as told");
+        if (wrong != 0) {
+            System.exit(1);
+        }
+    }
+
+    private static boolean isHidden(Member member) {
+        return Modifier.isPrivate(member.getModifiers()) || member.isSynthetic();
+    }
+
+    private static void methods() {
+        Set<String> told = new TreeSet<>();
+        for (String line : FACE.strip().split("\n")) {
+            told.add(line.replaceAll("(int|long) \\w+([,)])", "$1$2").replace(";", ""));
+        }
+        Set<String> names = new TreeSet<>();
+        Set<String> seen = new TreeSet<>();
+        for (Method method : WeatherPass.class.getDeclaredMethods()) {
+            if (!isHidden(method)) {
+                check(method.getModifiers() == Modifier.PUBLIC, method + " is not just public");
+                names.add(method.getName());
+                seen.add(method.getReturnType() + " " + method.getName() + "("
+                    + String.join(", ", Arrays.stream(method.getParameterTypes()).map(Class::getName).toList()) + ")");
+            }
+        }
+        check(seen.equals(told), "the methods are " + seen);
+        for (Class<?> type : types()) {
+            for (Method method : type.getDeclaredMethods()) {
+                check(!isHidden(method) || !names.contains(method.getName()), "a private one bears its name: " + method);
+                check(method.getParameterCount() <= 7, "too many parameters: " + method);
+            }
+        }
+        check(WeatherPass.class.getModifiers() == (Modifier.PUBLIC | Modifier.FINAL), "the class is not public final");
+        check(WeatherPass.class.getDeclaredConstructors().length == 1, "there are other constructors");
+        check(WeatherPass.class.getConstructors().length == 1, "the constructor is not public");
+    }
+
+    private static void constants() throws Exception {
+        Set<String> seen = new TreeSet<>();
+        for (Field field : WeatherPass.class.getDeclaredFields()) {
+            if (!isHidden(field)) {
+                check(field.getModifiers() == (Modifier.PUBLIC | Modifier.STATIC | Modifier.FINAL), field + "");
+                seen.add(field.getType() + " " + field.getName() + " " + field.get(null));
+            }
+        }
+        check(seen.equals(Set.of("int UNKNOWN -1", "int OUTSIDE -2", "int STATE -3", "int FULL -4", "int NONE -9",
+            "long LOST " + Long.MIN_VALUE)), "the constants are " + seen);
+    }
+
+    private static List<Class<?>> types() {
+        Class<?>[] inside = WeatherPass.class.getDeclaredClasses();
+        Class<?>[] all = Arrays.copyOf(inside, inside.length + 1);
+        all[inside.length] = WeatherPass.class;
+        return List.of(all);
+    }
+
+    private static void classes() {
+        check(types().size() <= 12, "too many classes");
+        for (Class<?> type : types()) {
+            int own = 0;
+            for (Field field : type.getDeclaredFields()) {
+                boolean isStatic = Modifier.isStatic(field.getModifiers());
+                own += isStatic ? 0 : 1;
+                check(!isStatic || Modifier.isFinal(field.getModifiers()), "static and not final: " + field);
+            }
+            check(own <= 20, "too many fields in " + type);
+            boolean isInside = type != WeatherPass.class;
+            check(!isInside || Modifier.isStatic(type.getModifiers()), "not static: " + type);
+            check(!isInside || !Modifier.isPublic(type.getModifiers()), "public: " + type);
+        }
+    }
+
+    private static void words(String source, String code) {
+        for (String word : FORBIDDEN) {
+            boolean isWord = Character.isLetter(word.charAt(0)) && !word.equals("Exact");
+            String pattern = isWord ? "\\b" + Pattern.quote(word) + "\\b" : Pattern.quote(word);
+            check(!Pattern.compile(pattern).matcher(code).find(), "the source has " + word);
+        }
+        Matcher imports = Pattern.compile("import ([^;]*);").matcher(code);
+        while (imports.find()) {
+            check(imports.group(1).matches("java\\.util\\.(Arrays|ArrayList|List|Iterator)"), imports.group());
+        }
+        Matcher calls = Pattern.compile("\\b(Math|Integer|Long|Arrays|System)\\.(\\w+)").matcher(code);
+        while (calls.find()) {
+            check(Set.of("max", "min", "bitCount", "fill", "arraycopy", "MIN_VALUE").contains(calls.group(2)),
+                "the source calls " + calls.group());
+        }
+        check(source.chars().allMatch(sign -> sign < 127), "the source has signs beyond 126");
+    }
+
+    /** Methods stand at 4 or 8 blanks, and so does the brace that ends them. */
+    private static void lengths(String code) {
+        Matcher bodies = Pattern.compile("(?m)^( {4}| {8})(?!\\S* *\\S* *class)\\S[^\n;=]*\\) \\{\n(.*\n)*?\\1\\}$")
+            .matcher(code);
+        int found = 0;
+        while (bodies.find()) {
+            found++;
+            check(bodies.group().split("\n").length <= 60, "too long: " + bodies.group().split("\n")[0]);
+        }
+        check(found > 31, "only " + found + " bodies found");
+    }
+
+    /** Objects are made with the object alone: by its constructor and where fields are declared. */
+    private static void objects(String code) {
+        int made = 0;
+        for (String line : code.split("\n")) {
+            if (line.contains("new ")) {
+                made++;
+                check(line.matches(" +private final int\\[\\](\\[\\])? \\w+ = new int(\\[[A-Z_]+\\]){1,2};")
+                    || line.matches(" {8}\\w+ = new \\w+(\\(\\)|\\[[A-Z_]+\\]);"), "made elsewhere: " + line);
+            }
+        }
+        check(made > 0, "nothing is made");
+    }
+}
