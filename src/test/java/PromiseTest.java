@@ -1,52 +1,6 @@
 /** Promise by promise: ordinary inputs, the edges that the document names, and wrong inputs. */
-public final class PromiseTest {
-    private static final int BYTES = 0, SHORTS = 1, INTS = 2;
-    private static final int NULL = -11, CAST = -12, INDEX = -13, SIZE = -14;
+public final class PromiseTest extends Bench {
     private static final int[] WILD = {Integer.MIN_VALUE, -1, Integer.MAX_VALUE};
-    /** Fields 3/5, 6/4, 2/8, 9/5; posts p3, c4, f2; rain 5, 9, 0, 7. */
-    private static final String LAND = "v4,35,64,28,95-p3-c4-f2;5907";
-
-    private static int passed = 0;
-    private static int failed = 0;
-    private static int promise = 0;
-
-    private static void due(String what, long got, long want) {
-        if (got == want) {
-            passed++;
-        } else {
-            failed++;
-            System.out.println("promise " + promise + ": " + what + " answered " + got + ", due is " + want);
-        }
-    }
-
-    private static void write(WeatherPass x, int sheet, int lane, String text) {
-        due("sheet", x.sheet(sheet, lane, text.length()), 1);
-        for (int i = 0; i < text.length(); i++) {
-            due("put", x.put(sheet, i, text.charAt(i)), 1);
-        }
-    }
-
-    private static void writeRow(WeatherPass x, int sheet, int lane, int... row) {
-        due("sheet", x.sheet(sheet, lane, row.length), 1);
-        for (int i = 0; i < row.length; i++) {
-            due("put", x.put(sheet, i, row[i]), 1);
-        }
-    }
-
-    private static int landOf(WeatherPass x, String text) {
-        write(x, 0, INTS, text);
-        return x.land(0, INTS, 0, text.length());
-    }
-
-    private static WeatherPass withLand(String text) {
-        WeatherPass x = new WeatherPass();
-        due("land " + text, landOf(x, text), text.charAt(1) - '1');
-        return x;
-    }
-
-    private static WeatherPass withLand() {
-        return withLand(LAND);
-    }
 
     public static void main(String[] args) {
         Runnable[] promises = {
@@ -58,14 +12,12 @@ public final class PromiseTest {
             PromiseTest::sheet, PromiseTest::lose, PromiseTest::put, PromiseTest::cell, PromiseTest::copy,
             PromiseTest::tell, PromiseTest::stamp, PromiseTest::as, PromiseTest::trace, PromiseTest::fault,
             PromiseTest::many};
-        for (Runnable test : promises) {
-            promise++;
-            test.run();
+        for (int k = 0; k < promises.length; k++) {
+            at("promise " + (k + 1));
+            promises[k].run();
         }
-        System.out.println(promise + " promises, " + passed + " answers as due, " + failed + " not");
-        if (failed != 0 || promise != 32) {
-            System.exit(1);
-        }
+        due("how many promises", promises.length, 32);
+        end(promises.length + " promises");
     }
 
     private static void aNewObject() {
