@@ -1,3 +1,5 @@
+import com.sun.management.ThreadMXBean;
+import java.lang.management.ManagementFactory;
 import java.lang.reflect.Field;
 import java.lang.reflect.Member;
 import java.lang.reflect.Method;
@@ -47,8 +49,9 @@ public final class FaceTest {
         int many(int what);
         """;
     private static final String[] FORBIDDEN = {"throw", "throws", "try", "catch", "finally", "synchronized", "assert",
-        "var", "protected", "native", "volatile", "transient", "->", "::", "\"", "Exact", "equals", "hashCode",
-        "toString", "getClass", "System.out", "package"};
+        "protected", "native", "volatile", "transient", "::", "Exact", "hashCode", "getClass", "random", "package"};
+    /** All calls of a run have 7.3 million fields and elements: of 8 bytes each at most. */
+    private static final long ROOM = 8 * 7_300_000L;
 
     private static int wrong = 0;
 
@@ -63,11 +66,12 @@ public final class FaceTest {
         methods();
         constants();
         String source = Files.readString(Path.of(System.getProperty("project"), "src/main/java/WeatherPass.java"));
-        String code = source.replaceAll("(?s)/\\*.*?\\*/", "").replaceAll("//[^\n]*", "");
+        String code = source.replaceAll("(?s)/\\*.*?\\*/", "").replaceAll("//[^\n]*", "")
+            .replaceAll("\"([^\"\\\\\n]|\\\\.)*\"", "TEXT");
         words(source, code);
         classes();
         lengths(code);
-        objects(code);
+        room();
         System.out.println(wrong == 0 ? "the face is the document's" : wrong + " things are not as told");
         if (wrong != 0) {
             System.exit(1);
@@ -97,6 +101,7 @@ public final class FaceTest {
         for (Class<?> type : types()) {
             for (Method method : type.getDeclaredMethods()) {
                 check(!isHidden(method) || !names.contains(method.getName()), "a private one bears its name: " + method);
+                check(!method.getName().startsWith("lambda$"), "a lambda: " + method);
                 check(method.getParameterCount() <= 7, "too many parameters: " + method);
             }
         }
@@ -152,34 +157,53 @@ public final class FaceTest {
         }
         Matcher calls = Pattern.compile("\\b(Math|Integer|Long|Arrays|System)\\.(\\w+)").matcher(code);
         while (calls.find()) {
-            check(Set.of("max", "min", "bitCount", "fill", "arraycopy", "MIN_VALUE").contains(calls.group(2)),
+            boolean isOfSystem = calls.group(1).equals("System");
+            boolean isOfArrays = calls.group(1).equals("Arrays");
+            check(!isOfSystem || calls.group(2).equals("arraycopy"), "the source calls " + calls.group());
+            check(!isOfArrays || Set.of("fill", "copyOf", "copyOfRange").contains(calls.group(2)),
                 "the source calls " + calls.group());
         }
         check(source.chars().allMatch(sign -> sign < 127), "the source has signs beyond 126");
     }
 
-    /** Methods stand at 4 or 8 blanks, and so does the brace that ends them. */
     private static void lengths(String code) {
-        Matcher bodies = Pattern.compile("(?m)^( {4}| {8})(?!\\S* *\\S* *class)\\S[^\n;=]*\\) \\{\n(.*\n)*?\\1\\}$")
-            .matcher(code);
+        Matcher heads = Pattern.compile("[\\w>\\]] \\w+\\([^;{}()]*\\)\\s*\\{").matcher(code);
         int found = 0;
-        while (bodies.find()) {
+        while (heads.find()) {
             found++;
-            check(bodies.group().split("\n").length <= 60, "too long: " + bodies.group().split("\n")[0]);
+            int lines = linesToEnd(code, heads.end());
+            check(lines <= 60, lines + " lines of " + heads.group());
         }
         check(found > 31, "only " + found + " bodies found");
     }
 
-    /** Objects are made with the object alone: by its constructor and where fields are declared. */
-    private static void objects(String code) {
-        int made = 0;
-        for (String line : code.split("\n")) {
-            if (line.contains("new ")) {
-                made++;
-                check(line.matches(" +private final int\\[\\](\\[\\])? \\w+ = new int(\\[[A-Z_]+\\]){1,2};")
-                    || line.matches(" {8}\\w+ = new \\w+(\\(\\)|\\[[A-Z_]+\\]);"), "made elsewhere: " + line);
-            }
+    /** How many lines a body has, from behind its first brace to the one that ends it. */
+    private static int linesToEnd(String code, int from) {
+        int lines = 1;
+        int open = 1;
+        for (int at = from; at < code.length() && open > 0; at++) {
+            char sign = code.charAt(at);
+            lines += sign == '\n' ? 1 : 0;
+            open += sign == '{' ? 1 : sign == '}' ? -1 : 0;
         }
-        check(made > 0, "nothing is made");
+        return lines;
+    }
+
+    /** The dearest calls of a run, as many as an object answers. */
+    private static void room() {
+        ThreadMXBean thread = (ThreadMXBean) ManagementFactory.getThreadMXBean();
+        long before = thread.getCurrentThreadAllocatedBytes();
+        WeatherPass x = new WeatherPass();
+        String text = "v6,00,00,00,00,00,00-f1-c2-p3-c4-f5;99999999";
+        x.sheet(0, 0, text.length());
+        for (int i = 0; i < text.length(); i++) {
+            x.put(0, i, text.charAt(i));
+        }
+        check(x.land(0, 0, 0, text.length()) == 5, "there is no land");
+        for (int call = text.length() + 3; call + 3 < 512; call += 4) {
+            check(x.odds(5, 1) > 0 && x.most() >= 0 && x.papers() < 32 && x.limits(0) > 0, "a call was refused");
+        }
+        long room = thread.getCurrentThreadAllocatedBytes() - before;
+        check(room < ROOM, "the calls of a run took " + room + " bytes");
     }
 }

@@ -12,11 +12,12 @@ abstract class Bench {
     /** Fields 3/5, 6/4, 2/8, 9/5; posts p3, c4, f2; rain 5, 9, 0, 7. */
     static final String LAND = "v4,35,64,28,95-p3-c4-f2;5907";
 
-    private static final int SHOWN = 60;
+    private static final int SHOWN_OF_A_PLACE = 3;
 
     private static int right = 0;
     private static int wrong = 0;
     private static String place = "";
+    private static int wrongHere = 0;
 
     interface Call {
         long of(WeatherPass x);
@@ -28,6 +29,7 @@ abstract class Bench {
 
     static void at(String where) {
         place = where;
+        wrongHere = 0;
     }
 
     static int lookedAt() {
@@ -44,7 +46,8 @@ abstract class Bench {
 
     static void fails(String how) {
         wrong++;
-        if (wrong <= SHOWN) {
+        wrongHere++;
+        if (wrongHere <= SHOWN_OF_A_PLACE) {
             System.out.println(place + ": " + how);
         }
     }
@@ -161,6 +164,18 @@ abstract class Bench {
     static void refusedEach(String what, int[] values, CallOf call, long want) {
         for (int v : values) {
             refused(what + " " + v, x -> call.of(x, v), want);
+        }
+    }
+
+    /** A call of a post that names no FAULTS: there is no post beyond the last one, and none without a land. */
+    static void unknownPosts(String name, CallOf call) {
+        refusedEach(name + " of post", beyond(0, 2), call, UNKNOWN);
+        stays(Bench::bare, name + " without a land", x -> call.of(x, 0), UNKNOWN, 1);
+        for (int fields = 2; fields <= 6; fields++) {
+            WeatherPass x = withLand(text(fields, 1));
+            due(name + " of one more than there are", call.of(x, fields - 1), UNKNOWN);
+            due("no trace", x.trace(), 0);
+            due(name + " of the last", call.of(x, fields - 2) < 0 ? 1 : 0, 0);
         }
     }
 

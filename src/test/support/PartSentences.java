@@ -61,22 +61,6 @@ final class PartSentences extends Bench {
         });
     }
 
-    private interface OfPost {
-        int of(WeatherPass x, int p);
-    }
-
-    private static void unknownPosts(String name, OfPost call) {
-        refusedEach(name + " of post", beyond(0, 2), (x, p) -> call.of(x, p), UNKNOWN);
-        stays(Bench::bare, name + " without a land", x -> call.of(x, 0), UNKNOWN, 1);
-        for (int fields = 2; fields <= 6; fields++) {
-            WeatherPass x = withLand(text(fields, 1));
-            due(name + " of one more than there are", call.of(x, fields - 1), UNKNOWN);
-            due("no trace", x.trace(), 0);
-            due(name + " of the last", call.of(x, fields - 2) == UNKNOWN ? 1 : 0, 0);
-            due("a trace", x.trace() == 0 ? 1 : 0, 0);
-        }
-    }
-
     /** TRACE behind bodies, by numbers without an end that are cut to an int. */
     private static int behind(int trace, int... bodies) {
         BigInteger longer = BigInteger.valueOf(trace);

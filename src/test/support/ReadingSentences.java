@@ -60,20 +60,6 @@ final class ReadingSentences extends Bench {
         s.says("OUTSIDE: which.", () -> refusedEach("which", beyond(0, 1), (x, which) -> x.odds(3, which), LOST));
     }
 
-    private interface OfPost {
-        int of(WeatherPass x, int p);
-    }
-
-    private static void unknownPosts(String name, OfPost call) {
-        refusedEach(name + " of post", beyond(0, 2), (x, p) -> call.of(x, p), UNKNOWN);
-        stays(Bench::bare, name + " without a land", x -> call.of(x, 0), UNKNOWN, 1);
-        for (int fields = 2; fields <= 6; fields++) {
-            WeatherPass x = withLand(text(fields, 1));
-            due(name + " of the last post", call.of(x, fields - 2), name.equals("kinds") ? 7 : 1023);
-            due(name + " of one more", call.of(x, fields - 1), UNKNOWN);
-        }
-    }
-
     // ---- readings
 
     private static void eightReadings() {
