@@ -15,39 +15,8 @@ import java.util.regex.Pattern;
 
 /** The document's face, and what of ../shared/LANGUAGE.md can be seen from outside or from the words of the source. */
 public final class FaceTest {
-    private static final String FACE = """
-        int land(int sheet, int lane, int i, int n);
-        int ofField(int f, int what);
-        int ofPost(int p, int what);
-        int lets(int p, int much);
-        int limit(int p, int v);
-        int rain(int day, int v);
-        int wet(int f, int t);
-        int fell(int f, int t);
-        int flood(int what);
-        int enough();
-        int plan(int sheet, int lane, int i, int n, int what);
-        int papers();
-        int most();
-        int shut(int f);
-        int reading(int f, int t, int v);
-        int back(int k);
-        int limits(int p);
-        int kinds(int p);
-        int rains(int day);
-        long odds(int f, int which);
-        int sheet(int k, int lane, int n);
-        int lose(int k);
-        int put(int k, int i, int v);
-        long cell(int k, int i, int lane);
-        int copy(int k, int i, int other, int j, int n);
-        int tell(int p);
-        int stamp(int p);
-        int as(int p, int kind);
-        int trace();
-        int fault();
-        int many(int what);
-        """;
+    private static final Pattern FACE =
+        Pattern.compile("(?s)```java\npublic final class WeatherPass \\{\n(.*?)\n}\n```");
     private static final String[] FORBIDDEN = {"throw", "throws", "try", "catch", "finally", "synchronized", "assert",
         "protected", "native", "volatile", "transient", "::", "Exact", "hashCode", "getClass", "random", "package"};
     /** All calls of a run have 7.3 million fields and elements: of 8 bytes each at most. */
@@ -63,8 +32,9 @@ public final class FaceTest {
     }
 
     public static void main(String[] args) throws Exception {
-        methods();
-        constants();
+        List<String> face = face();
+        methods(face);
+        constants(face);
         String source = Files.readString(Path.of(System.getProperty("project"), "src/main/java/WeatherPass.java"));
         String code = source.replaceAll("(?s)/\\*.*?\\*/", "").replaceAll("//[^\n]*", "")
             .replaceAll("\"([^\"\\\\\n]|\\\\.)*\"", "TEXT");
@@ -78,15 +48,28 @@ public final class FaceTest {
         }
     }
 
+    /** The lines of the document's public face, without the class's own and the word public. */
+    private static List<String> face() throws Exception {
+        String document = Files.readString(Path.of(System.getProperty("project"), "../shared/DOC.md"));
+        Matcher found = FACE.matcher(document);
+        List<String> lines = found.find() ? found.group(1).lines().toList() : List.of();
+        check(lines.size() > 3, "the document has no face");
+        check(lines.stream().allMatch(line -> line.matches("    public [^{}]*;")), "a line of the face is another one");
+        return lines.stream().map(line -> line.replaceAll("^    public |;$", "")).toList();
+    }
+
     private static boolean isHidden(Member member) {
         return Modifier.isPrivate(member.getModifiers()) || member.isSynthetic();
     }
 
-    private static void methods() {
+    private static void methods(List<String> face) {
         Set<String> told = new TreeSet<>();
-        for (String line : FACE.strip().split("\n")) {
-            told.add(line.replaceAll("(int|long) \\w+([,)])", "$1$2").replace(";", ""));
+        for (String line : face) {
+            if (line.contains("(")) {
+                told.add(line.replaceAll("(int|long) \\w+([,)])", "$1$2"));
+            }
         }
+        check(told.remove("WeatherPass()"), "the face has no constructor without numbers");
         Set<String> names = new TreeSet<>();
         Set<String> seen = new TreeSet<>();
         for (Method method : WeatherPass.class.getDeclaredMethods()) {
@@ -107,10 +90,21 @@ public final class FaceTest {
         }
         check(WeatherPass.class.getModifiers() == (Modifier.PUBLIC | Modifier.FINAL), "the class is not public final");
         check(WeatherPass.class.getDeclaredConstructors().length == 1, "there are other constructors");
-        check(WeatherPass.class.getConstructors().length == 1, "the constructor is not public");
+        check(Arrays.stream(WeatherPass.class.getConstructors()).anyMatch(made -> made.getParameterCount() == 0),
+            "the constructor is not public, or takes something");
     }
 
-    private static void constants() throws Exception {
+    private static void constants(List<String> face) throws Exception {
+        Set<String> told = new TreeSet<>();
+        for (String line : face) {
+            Matcher constants = Pattern.compile("static final (int|long) (.*)").matcher(line);
+            if (constants.matches()) {
+                for (String constant : constants.group(2).split(", ")) {
+                    told.add(constants.group(1) + " " + constant.replace(" =", "")
+                        .replace("Long.MIN_VALUE", "" + Long.MIN_VALUE));
+                }
+            }
+        }
         Set<String> seen = new TreeSet<>();
         for (Field field : WeatherPass.class.getDeclaredFields()) {
             if (!isHidden(field)) {
@@ -118,8 +112,7 @@ public final class FaceTest {
                 seen.add(field.getType() + " " + field.getName() + " " + field.get(null));
             }
         }
-        check(seen.equals(Set.of("int UNKNOWN -1", "int OUTSIDE -2", "int STATE -3", "int FULL -4", "int NONE -9",
-            "long LOST " + Long.MIN_VALUE)), "the constants are " + seen);
+        check(seen.equals(told), "the constants are " + seen);
     }
 
     private static List<Class<?>> types() {
